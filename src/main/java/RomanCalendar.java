@@ -443,6 +443,7 @@ public final class RomanCalendar {
 
     // ---- the law's days and places in the year
 
+    /** Doubled days lie four years apart, from the first one on through the whole calendar. */
     private static int doubledDaysBefore(int number) {
         return (number + FOUR_YEARS - 1 - FIRST_DOUBLED) / FOUR_YEARS;
     }

@@ -101,6 +101,9 @@ public final class CharactersTest {
         check.equal("nextCourt(364)", x.nextCourt(364), 367);
         check.equal("nextCourt(1095749)", x.nextCourt(1095749), -1);
         check.equal("nextCourt(1095748)", x.nextCourt(1095748), 1095748);
+        // The kalends behind the last day are no day of the calendar.
+        x.setCharacter(1, F);
+        check.equal("nextCourt(1095749) then", x.nextCourt(1095749), -1);
     }
 
     private static void noCourts() {
