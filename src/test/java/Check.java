@@ -1,10 +1,23 @@
-/** Counts what a test finds, prints each wrong answer, and ends the test's run. */
+import java.util.TreeSet;
+
+/**
+ * Counts what a test finds, prints each wrong answer with the promise and the sentence that it
+ * breaks, and ends the test's run.
+ */
 final class Check {
     /** At more than this many lines the rest are counted alone. */
     private static final int MOST_LINES = 50;
 
+    private final TreeSet<Integer> promises = new TreeSet<>();
+    private String sentence = "";
     private int checks = 0;
     private int wrong = 0;
+
+    /** Says which sentence of which promise the next answers are asked for. */
+    void promise(int number, String words) {
+        promises.add(number);
+        sentence = "promise " + number + ", " + words + ": ";
+    }
 
     void equal(String call, long got, long due) {
         checks++;
@@ -21,63 +34,28 @@ final class Check {
     }
 
     void yes(String call, boolean got) {
-        checks++;
-        if (!got) {
-            report(call + " answered false, due is true");
-        }
+        equal(call, got, true);
     }
 
     void no(String call, boolean got) {
-        checks++;
-        if (got) {
-            report(call + " answered true, due is false");
-        }
-    }
-
-    /** The very class is asked, as a class below it would be another exception. */
-    void throwing(Class<? extends RuntimeException> due, String call, Runnable body) {
-        checks++;
-        try {
-            body.run();
-        } catch (RuntimeException e) {
-            if (e.getClass() != due) {
-                report(call + " threw " + e + ", due is " + due.getSimpleName());
-            }
-            return;
-        }
-        report(call + " threw nothing, due is " + due.getSimpleName());
-    }
-
-    void noIndex(String call, Runnable body) {
-        throwing(IndexOutOfBoundsException.class, call, body);
-    }
-
-    void noArgument(String call, Runnable body) {
-        throwing(IllegalArgumentException.class, call, body);
-    }
-
-    void noState(String call, Runnable body) {
-        throwing(IllegalStateException.class, call, body);
-    }
-
-    /** Numbers of days that there are not. */
-    static int[] wrongNumbers() {
-        return new int[] {-1, 1095750, -8, 1095757, Integer.MIN_VALUE, Integer.MAX_VALUE};
-    }
-
-    static int[] wrongYears() {
-        return new int[] {0, 3001, -1, -4, Integer.MIN_VALUE, Integer.MAX_VALUE};
-    }
-
-    static int[] wrongMonths() {
-        return new int[] {0, 13, -1, Integer.MIN_VALUE, Integer.MAX_VALUE};
+        equal(call, got, false);
     }
 
     private void report(String line) {
         wrong++;
         if (wrong <= MOST_LINES) {
-            System.out.println(line);
+            System.out.println(sentence + line);
         }
+    }
+
+    /** Ends a test of these promises: none of them may have been left out. */
+    void end(int first, int last) {
+        for (int number = first; number <= last; number++) {
+            if (!promises.contains(number)) {
+                report("promise " + number + " was not asked for");
+            }
+        }
+        end();
     }
 
     void end() {
